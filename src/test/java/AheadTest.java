@@ -5,6 +5,7 @@ public final class AheadTest {
     public static void main(String[] args) {
         peaksByHand();
         peaksThatCome();
+        silencesThatCome();
         silences();
         silencesOfTracks();
         nextVoices();
@@ -42,14 +43,44 @@ public final class AheadTest {
         due.same("2248 is in the delay", track.wouldPeak(4), 2248);
     }
 
+    /** The same object again, in one of many states: many voices, taken ones among them, and an uneven delay. */
+    private static Melodeon somewhere(int state) {
+        Melodeon m = Sounds.busy();
+        m.setDelay(3 + state % 5, 250, 40 * (state % 7));
+        m.run(1 + 3 * state);
+        for (int note = 0; note < state % 6; note++) {
+            m.begin((state + note) % 4, (7 * state + 11 * note) % 48, 127 - note);
+            m.run(1 + state % 4);
+        }
+        m.end(state % 4);
+        if (state % 5 == 4) {
+            m.stop();
+        }
+        return m;
+    }
+
     private static void peaksThatCome() {
-        for (int many = 1; many <= 200; many += many < 20 ? 1 : 15) {
-            Melodeon asked = Sounds.busy();
-            int would = asked.wouldPeak(many);
-            Melodeon other = Sounds.busy();
-            other.reset();
-            other.run(many);
-            due.same("wouldPeak " + many, would, other.peak());
+        for (int state = 0; state < 40; state++) {
+            Melodeon asked = somewhere(state);
+            for (int many = 1; many <= 200; many += many < 4 ? 1 : 28) {
+                Melodeon other = somewhere(state);
+                int would = asked.wouldPeak(many);
+                other.reset();
+                other.run(many);
+                due.same("wouldPeak " + many + " in the state " + state, would, other.peak());
+            }
+        }
+    }
+
+    private static void silencesThatCome() {
+        for (int state = 0; state < 40; state++) {
+            Melodeon other = somewhere(state);
+            int behind = 0;
+            while (behind <= 200 && other.sounding() > 0) {
+                other.sample();
+                behind++;
+            }
+            due.same("silentIn in the state " + state, somewhere(state).silentIn(200), behind <= 200 ? behind : -1);
         }
     }
 

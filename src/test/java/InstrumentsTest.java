@@ -13,6 +13,7 @@ public final class InstrumentsTest {
         detunes();
         toldAsItSounds();
         levels();
+        levelsToTheDot();
         levelsToldOnTheWay();
         filters();
         filterLimits();
@@ -221,6 +222,32 @@ public final class InstrumentsTest {
         level(m, 0, 0);
     }
 
+    private static void levelsToTheDot() {
+        Melodeon m = new Melodeon();
+        m.setEnvelope(0, 1, 41, 999, 3);
+        m.begin(0, 0, 127);
+        m.run(39);
+        level(m, 2, 999025);
+        level(m, 3, 999000);
+        m.setEnvelope(0, 1, 1, 1000, 3);
+        m.sample();
+        m.end(0);
+        level(m, 4, 666667);
+        level(m, 4, 333334);
+        level(m, 4, 1);
+        level(m, 0, 0);
+        Melodeon first = new Melodeon();
+        first.begin(0, 0, 127);
+        level(first, 1, 100000);
+        first.run(8);
+        level(first, 2, 1000000);
+        level(first, 3, 1000000);
+        first.end(0);
+        level(first, 4, 900000);
+        first.run(8);
+        level(first, 0, 0);
+    }
+
     private static void levelsToldOnTheWay() {
         Melodeon m = new Melodeon();
         m.setEnvelope(0, 2, 100, 500, 10);
@@ -329,6 +356,11 @@ public final class InstrumentsTest {
         slow.setVibrato(0, 10, 255);
         slow.sample();
         due.same("514: -969, so -9.69", slow.ofVoice(0, 5), 256 - 64 + 256 - 63 + 256 - 9);
+        Melodeon middling = new Melodeon();
+        middling.setVibrato(0, 49, 64);
+        middling.begin(0, 0, 127);
+        middling.run(2);
+        due.same("-938 at 1024, so -45.96", middling.ofVoice(0, 5), 256 - 49 + 256 - 45);
         Melodeon late = new Melodeon();
         late.run(11);
         late.setVibrato(0, 64, 10);
@@ -391,6 +423,15 @@ public final class InstrumentsTest {
         due.same("m -1000", down.run(2), -1000);
         due.same("m -2248, d -1000: -996.09", down.sample(), -3244);
         due.same("row: -2248 - 11.7", down.inDelay(0), -2259);
+        Melodeon shorter = Sounds.flat(1000);
+        shorter.setDelay(5, 0, 0);
+        shorter.begin(0, 0, 127);
+        shorter.run(3);
+        shorter.setDelay(2, 256, 0);
+        shorter.run(2);
+        due.same("the first place", shorter.inDelay(0), 3312);
+        due.same("the second place", shorter.inDelay(1), 4016);
+        due.same("4364, and 3312 of the shorter row", shorter.sample(), 7676);
         Melodeon none = Sounds.flat(1000);
         none.setDelay(0, 256, 256);
         none.begin(0, 0, 127);

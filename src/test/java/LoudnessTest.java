@@ -8,6 +8,7 @@ public final class LoudnessTest {
         clips();
         edgesOfClipping();
         crosses();
+        smallCrosses();
         crossesOverReset();
         resets();
         due.end();
@@ -130,6 +131,17 @@ public final class LoudnessTest {
         down.hush();
         down.sample();
         due.same("0 behind below 0", down.crossings(), 0);
+    }
+
+    private static void smallCrosses() {
+        Melodeon m = Sounds.flat(1000);
+        m.setGain(1);
+        m.begin(0, 0, 9);
+        m.sample();
+        due.same("250 * 9 / 127 / 16", m.sample(), 1);
+        due.same("1 behind 0", m.crossings(), 1);
+        due.same("562 * 9 / 127 / 16", m.sample(), 2);
+        due.same("2 behind 1", m.crossings(), 1);
     }
 
     private static void crossesOverReset() {
