@@ -1,3 +1,5 @@
+import java.util.List;
+
 /** Counts and prints the answers of a test that are not the ones that are due. */
 final class Due {
     private final String title;
@@ -12,6 +14,19 @@ final class Due {
         asked++;
         if (answer != due) {
             tell(call + " answered " + answer + ", due is " + due);
+        }
+    }
+
+    /** Whether two objects told the same story; what differs first is printed. */
+    void same(String call, List<String> answers, List<String> due) {
+        asked++;
+        for (int i = 0; i < Math.max(answers.size(), due.size()); i++) {
+            String answer = i < answers.size() ? answers.get(i) : "nothing";
+            String wanted = i < due.size() ? due.get(i) : "nothing";
+            if (!answer.equals(wanted)) {
+                tell(call + ", then " + answer + ", due is " + wanted);
+                return;
+            }
         }
     }
 
@@ -41,7 +56,7 @@ final class Due {
     }
 
     /** The class itself is due: what the machine throws is often of a class below it. */
-    private void refused(String call, Runnable made, Class<?> due) {
+    void refused(String call, Runnable made, Class<?> due) {
         asked++;
         try {
             made.run();
@@ -54,11 +69,19 @@ final class Due {
         tell(call + " threw nothing, due is " + due.getSimpleName());
     }
 
-    private void tell(String text) {
+    void tell(String text) {
         wrong++;
         if (wrong <= 30) {
             System.out.println(title + ": " + text);
         }
+    }
+
+    int asked() {
+        return asked;
+    }
+
+    int wrong() {
+        return wrong;
     }
 
     void end() {
