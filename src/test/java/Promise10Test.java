@@ -139,6 +139,29 @@ public final class Promise10Test {
         }
     }
 
+    /** The first number that comes to a new row is at its end, and goes LENGTH samples later, from 1 to 200. */
+    static void theFirstNumberOfANewRow(Due due) {
+        for (int length : new int[] {1, 2, 3, 199, 200}) {
+            Melodeon m = Sounds.flat(1000);
+            m.setDelay(4, 256, 0);
+            m.begin(0, 0, 127);
+            m.run(3);
+            m.setDelay(length, 256, 0);
+            due.same("the fourth sample of the note", m.sample(), 3312);
+            due.same("at the end", m.inDelay(length - 1), 3312);
+            if (length > 1) {
+                due.same("at the first place", m.inDelay(0), 0);
+                due.same("ahead of the end", m.inDelay(length - 2), 0);
+            }
+            m.hush();
+            if (length > 1) {
+                due.same("nothing for " + (length - 1), m.run(length - 1), 0);
+            }
+            due.same("3312 again", m.sample(), 3312);
+            due.same("nothing behind that", m.sample(), 0);
+        }
+    }
+
     /** The row begins anew where its LENGTH gets shorter in the midst of it. */
     static void aShorterRowHasItsOwnEnd(Due due) {
         Melodeon m = Sounds.flat(1000);

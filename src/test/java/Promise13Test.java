@@ -107,6 +107,19 @@ public final class Promise13Test {
         due.same("state", m.ofVoice(0, 0), 3);
     }
 
+    /** "as it was left", of ofVoice(): hush() leaves the NOTE, the PHASES, LOW and BAND of each as they were */
+    static void theRestIsLeft(Due due) {
+        Melodeon m = Sounds.flat(1000);
+        m.setWaves(0, 3, 3, 5, 0);
+        m.begin(0, 12, 77);
+        m.run(3);
+        due.same("hush()", m.hush(), 1);
+        int[] left = {0, 0, 0, 12, 77, 1536, 1551, 562, 532, -1};
+        for (int what = 0; what < left.length; what++) {
+            due.same("ofVoice(0, " + what + ")", m.ofVoice(0, what), left[what]);
+        }
+    }
+
     /** It makes VOICES FREE, and nothing else: TRACKS play on, and what is in the DELAY comes. */
     static void allElseGoesOn(Due due) {
         Melodeon m = Sounds.flat(1000);

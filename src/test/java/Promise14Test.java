@@ -111,11 +111,14 @@ public final class Promise14Test {
 
     /** "If several exceptions apply, the one that is named first is thrown": that of the TRACK, or STEP */
     static void whatThereIsNotIsNamedFirst(Due due) {
-        Twins.noPlace(due, "write(3, 0, 48, 10, 11)", m -> m.write(3, 0, 48, 10, 11));
-        Twins.noPlace(due, "write(-1, 0, 9, 0, 11)", m -> m.write(-1, 0, 9, 0, 11));
-        Twins.noPlace(due, "write(0, 8, -2, 10, 11)", m -> m.write(0, 8, -2, 10, 11));
-        Twins.noPlace(due, "write(0, -1, 9, 10, 201)", m -> m.write(0, -1, 9, 10, 201));
-        Twins.noPlace(due, "write(3, 8, 9, 128, 11)", m -> m.write(3, 8, 9, 128, 11));
+        int[][] wrong = {{48, 10, 11}, {-2, 10, 11}, {9, 0, 11}, {9, 128, 11}, {9, 10, 0}, {9, 10, 201},
+            {48, 128, 201}};
+        for (int[] told : wrong) {
+            String rest = told[0] + ", " + told[1] + ", " + told[2] + ")";
+            Twins.noPlace(due, "write(3, 0, " + rest, m -> m.write(3, 0, told[0], told[1], told[2]));
+            Twins.noPlace(due, "write(0, 8, " + rest, m -> m.write(0, 8, told[0], told[1], told[2]));
+            Twins.noPlace(due, "write(-1, -1, " + rest, m -> m.write(-1, -1, told[0], told[1], told[2]));
+        }
         Twins.noArgument(due, "write(0, 0, 48, 128, 201)", m -> m.write(0, 0, 48, 128, 201));
     }
 

@@ -12,6 +12,12 @@ public final class Promise18Test {
         due.same("stop()", m.stop(), 0);
         due.same("stop() again", m.stop(), -1);
         due.no("isPlaying()", m.isPlaying());
+        m.play(5);
+        m.run(3);
+        due.same("stop() in the midst of a STEP", m.stop(), 5);
+        due.same("stop() again", m.stop(), -1);
+        m.run(3);
+        due.same("stop() samples later", m.stop(), -1);
     }
 
     /** "Returns the STEP at which it was": 0 to 7, with no sample made */

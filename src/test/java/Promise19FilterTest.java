@@ -118,8 +118,8 @@ public final class Promise19FilterTest {
     static void whatItGivesIsCutOneAfterTheOther(Due due) {
         for (int sign = -1; sign <= 1; sign += 2) {
             due.same("562 * 64 / 127 = 283.2", third(1000 * sign, 1, 64), 283 * sign);
-            due.same("562 * 50 / 127 = 221; * 428 / 1000 = 94.6", third(1000 * sign, 7, 50), 94 * sign);
-            due.same("562 * 100 / 127 = 442; * 7 / 1000 = 3.1", third(1000 * sign, 400, 100), 3 * sign);
+            due.same("562 * 63 / 127 = 278, not 278.8; * 428 / 1000 = 118.98", third(1000 * sign, 7, 63), 118 * sign);
+            due.same("562 * 7, not 7.5, / 1000 = 3.9", third(1000 * sign, 400, 127), 3 * sign);
         }
     }
 

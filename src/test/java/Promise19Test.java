@@ -124,7 +124,7 @@ public final class Promise19Test {
         due.same("clipped()", m.clipped(), 0);
     }
 
-    /** "Then the CLOCK becomes 1 more": the VIBRATO of the first sample is that of the CLOCK 0, of the next that of 1 */
+    /** "Then the CLOCK becomes 1 more": the first sample has the VIBRATO of the CLOCK 0, the next that of 1 */
     static void theClockIsOneMoreBehindIt(Due due) {
         Melodeon m = new Melodeon();
         m.setVibrato(0, 64, 8);
